@@ -16,7 +16,9 @@ public final class PromisesTest {
         basket();
         basketsFull();
         drop();
+        dropAmongDays();
         forget();
+        forgetInFullHouse();
         day();
         lastDay();
         look();
@@ -25,10 +27,12 @@ public final class PromisesTest {
         kin();
         kinOfSmallGroups();
         near();
+        nearThingZero();
         taken();
         score();
         may();
         listBySizeSumAndNumber();
+        listOfThingZero();
         listKeepsRules();
         listWithShareOfNew();
         listOfWrongInputs();
@@ -210,6 +214,29 @@ public final class PromisesTest {
         check.due("drop behind the last", x.drop(2), false);
     }
 
+    private static void dropAmongDays() {
+        BasketHouse x = house(0, 1);
+        baskets(x, 0, 3);
+        x.day();
+        baskets(x, 1, 3);
+        x.day();
+        baskets(x, 2, 3);
+        x.drop(0);
+        check.due("day of 0", x.of(0, 1), 1);
+        check.due("day of 1", x.of(1, 1), 2);
+        check.due("both", x.count(0, 1, 0), 2);
+        check.due("people", x.count(0, 1, 1), 2);
+        x.drop(1);
+        check.due("both less the last", x.count(0, 1, 0), 1);
+        check.due("people less the last", x.count(0, 1, 1), 1);
+        check.due("nothing taken by 2", x.taken(2), 0);
+        days(x, 26);
+        check.due("it stays up to its last day", x.look(2), 1);
+        x.day();
+        check.due("it is too old", x.look(2), 0);
+        check.due("both of none", x.count(0, 1, 0), 0);
+    }
+
     // Promise 8
     private static void forget() {
         BasketHouse x = house(0, 1, 2, 3);
@@ -241,6 +268,21 @@ public final class PromisesTest {
             check.due("forget " + p, x.forget(p), -1);
         }
         check.due("all untouched", x.look(2), 2);
+    }
+
+    private static void forgetInFullHouse() {
+        BasketHouse x = house(0, 1);
+        for (int n = 0; n < 60; n++) {
+            x.basket(n < 30 ? 0 : 1, 3);
+        }
+        check.due("both", x.count(0, 1, 0), 60);
+        check.due("forget the later half", x.forget(1), 30);
+        check.due("both of half", x.count(0, 1, 0), 30);
+        check.due("forget it again", x.forget(1), 0);
+        check.due("all", x.look(2), 30);
+        check.due("forget the other half", x.forget(0), 30);
+        check.due("none is left", x.look(2), 0);
+        check.due("a new one is the first", x.basket(1, 1), 0);
     }
 
     // Promise 9
@@ -401,6 +443,15 @@ public final class PromisesTest {
         check.due("near of the only thing", house(0).near(0, 0), -1);
     }
 
+    private static void nearThingZero() {
+        BasketHouse x = house(0, 1, 2);
+        x.set(0, 1);
+        baskets(x, 0, 1 + 4, 1, 1, 4);
+        check.due("kin 2 0", x.kin(2, 0), -334);
+        check.due("0 is not the nearest", x.near(2, 0), 1);
+        check.due("0 is the last", x.near(2, 1), 0);
+    }
+
     // Promise 15
     private static void taken() {
         BasketHouse x = house(0, 1, 2, 3);
@@ -482,6 +533,17 @@ public final class PromisesTest {
         check.due("at most five", y.list(0, 5, 0), 31);
         check.due("showings are not counted by list", y.shown(0, -1, 2), 0);
         check.due("shown is not counted by list", y.shown(0, 0, 0), 0);
+    }
+
+    private static void listOfThingZero() {
+        BasketHouse x = house(0, 1, 2);
+        x.set(0, 1);
+        baskets(x, 0, 4);
+        baskets(x, 1, 1 + 4, 1, 1);
+        check.due("score 0", x.score(0, 0), -334);
+        check.due("0 is below 1", x.list(0, 1, 0), 2);
+        check.due("both", x.list(0, 2, 0), 3);
+        check.due("the sum with 0", x.list(0, 2, 1), -334);
     }
 
     private static void listKeepsRules() {
