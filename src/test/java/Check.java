@@ -1,6 +1,7 @@
 /** Compares answers with those that are due, and tells the wrong ones. */
 final class Check {
     private final String test;
+    private String about = "";
     private int wrong;
     private int asked;
 
@@ -8,11 +9,16 @@ final class Check {
         this.test = test;
     }
 
+    /** The sentence of the document that the following answers are due by. */
+    void about(String sentence) {
+        about = "[" + sentence + "] ";
+    }
+
     void due(String call, long got, long want) {
         asked++;
         if (got != want) {
             wrong++;
-            System.out.println(test + ": " + call + " answered " + got + ", due is " + want);
+            System.out.println(test + ": " + about + call + " answered " + got + ", due is " + want);
         }
     }
 

@@ -1,6 +1,6 @@
 /** One test or more for each promise of the document: ordinary inputs, the edges it names, wrong inputs. */
 public final class PromisesTest {
-    private static final int NO_NUMBER = -1000001;
+    private static final int NO_NUMBER = Houses.NO_NUMBER;
     private static final int LEAST = Integer.MIN_VALUE;
     private static final int GREATEST = Integer.MAX_VALUE;
     private static final int[] NO_PERSONS = {-1, 8, LEAST, GREATEST};
@@ -44,26 +44,6 @@ public final class PromisesTest {
         check.finish();
     }
 
-    private static BasketHouse house(int... sorts) {
-        BasketHouse house = new BasketHouse();
-        for (int sort : sorts) {
-            house.thing(sort);
-        }
-        return house;
-    }
-
-    private static void days(BasketHouse house, int many) {
-        for (int n = 0; n < many; n++) {
-            house.day();
-        }
-    }
-
-    private static void baskets(BasketHouse house, int p, int... sets) {
-        for (int set : sets) {
-            house.basket(p, set);
-        }
-    }
-
     // Promise 1
     private static void newObject() {
         BasketHouse x = new BasketHouse();
@@ -103,7 +83,7 @@ public final class PromisesTest {
 
     // Promise 3
     private static void stock() {
-        BasketHouse x = house(0, 1);
+        BasketHouse x = Houses.with(0, 1);
         check.due("stock, it was in", x.stock(0, true), false);
         check.due("stock out", x.stock(0, false), true);
         check.due("stock, it was out", x.stock(0, false), false);
@@ -142,7 +122,7 @@ public final class PromisesTest {
 
     // Promise 5
     private static void apart() {
-        BasketHouse x = house(0, 1, 2);
+        BasketHouse x = Houses.with(0, 1, 2);
         check.due("apart, it was not", x.apart(0, 1, false), false);
         check.due("apart", x.apart(0, 1, true), true);
         check.due("apart, it was so", x.apart(0, 1, true), false);
@@ -162,7 +142,7 @@ public final class PromisesTest {
 
     // Promise 6
     private static void basket() {
-        BasketHouse x = house(0, 1, 2);
+        BasketHouse x = Houses.with(0, 1, 2);
         check.due("basket", x.basket(7, 5), 0);
         check.due("basket of the same", x.basket(7, 5), 1);
         x.stock(1, false);
@@ -179,7 +159,7 @@ public final class PromisesTest {
     }
 
     private static void basketsFull() {
-        BasketHouse x = house(0, 1);
+        BasketHouse x = Houses.with(0, 1);
         for (int n = 0; n < 60; n++) {
             check.due("basket " + n, x.basket(n % 8, 1), n);
         }
@@ -195,9 +175,9 @@ public final class PromisesTest {
 
     // Promise 7
     private static void drop() {
-        BasketHouse x = house(0, 1, 2, 3);
+        BasketHouse x = Houses.with(0, 1, 2, 3);
         check.due("drop of none", x.drop(0), false);
-        baskets(x, 3, 1, 2, 4, 8);
+        Houses.baskets(x, 3, 1, 2, 4, 8);
         for (int none : new int[] {-1, 4, 60, LEAST, GREATEST}) {
             check.due("drop " + none, x.drop(none), false);
         }
@@ -215,12 +195,12 @@ public final class PromisesTest {
     }
 
     private static void dropAmongDays() {
-        BasketHouse x = house(0, 1);
-        baskets(x, 0, 3);
+        BasketHouse x = Houses.with(0, 1);
+        Houses.baskets(x, 0, 3);
         x.day();
-        baskets(x, 1, 3);
+        Houses.baskets(x, 1, 3);
         x.day();
-        baskets(x, 2, 3);
+        Houses.baskets(x, 2, 3);
         x.drop(0);
         check.due("day of 0", x.of(0, 1), 1);
         check.due("day of 1", x.of(1, 1), 2);
@@ -230,7 +210,7 @@ public final class PromisesTest {
         check.due("both less the last", x.count(0, 1, 0), 1);
         check.due("people less the last", x.count(0, 1, 1), 1);
         check.due("nothing taken by 2", x.taken(2), 0);
-        days(x, 26);
+        Houses.days(x, 26);
         check.due("it stays up to its last day", x.look(2), 1);
         x.day();
         check.due("it is too old", x.look(2), 0);
@@ -239,12 +219,12 @@ public final class PromisesTest {
 
     // Promise 8
     private static void forget() {
-        BasketHouse x = house(0, 1, 2, 3);
+        BasketHouse x = Houses.with(0, 1, 2, 3);
         x.set(3, 2);
-        baskets(x, 1, 1);
-        baskets(x, 2, 1);
-        baskets(x, 1, 2, 2);
-        baskets(x, 3, 4);
+        Houses.baskets(x, 1, 1);
+        Houses.baskets(x, 2, 1);
+        Houses.baskets(x, 1, 2, 2);
+        Houses.baskets(x, 3, 4);
         x.show(1, 1);
         x.show(1, 1);
         x.show(1, 2);
@@ -271,7 +251,7 @@ public final class PromisesTest {
     }
 
     private static void forgetInFullHouse() {
-        BasketHouse x = house(0, 1);
+        BasketHouse x = Houses.with(0, 1);
         for (int n = 0; n < 60; n++) {
             x.basket(n < 30 ? 0 : 1, 3);
         }
@@ -287,11 +267,11 @@ public final class PromisesTest {
 
     // Promise 9
     private static void day() {
-        BasketHouse x = house(0, 1);
-        baskets(x, 0, 1);
+        BasketHouse x = Houses.with(0, 1);
+        Houses.baskets(x, 0, 1);
         check.due("day", x.day(), 1);
-        baskets(x, 1, 2);
-        days(x, 26);
+        Houses.baskets(x, 1, 2);
+        Houses.days(x, 26);
         check.due("all on day 27", x.look(2), 2);
         check.due("taken on day 27", x.taken(0), 1);
         check.due("day 28", x.day(), 28);
@@ -304,9 +284,9 @@ public final class PromisesTest {
 
     // More calls than the document promises for one object; the last day can't be reached otherwise.
     private static void lastDay() {
-        BasketHouse x = house(0);
-        days(x, 9998);
-        baskets(x, 0, 1);
+        BasketHouse x = Houses.with(0);
+        Houses.days(x, 9998);
+        Houses.baskets(x, 0, 1);
         check.due("the last day", x.day(), 9999);
         x.set(3, 1);
         check.due("show on the last day", x.show(1, 1), 1);
@@ -318,11 +298,11 @@ public final class PromisesTest {
 
     // Promise 10
     private static void look() {
-        BasketHouse x = house(0, 1);
-        days(x, 4);
+        BasketHouse x = Houses.with(0, 1);
+        Houses.days(x, 4);
         x.thing(2);
         x.stock(0, false);
-        baskets(x, 5, 3, 1);
+        Houses.baskets(x, 5, 3, 1);
         x.set(0, 3);
         x.set(1, 4);
         x.set(2, 5);
@@ -334,11 +314,11 @@ public final class PromisesTest {
         for (int what : new int[] {-1, 9, LEAST, GREATEST}) {
             check.due("look " + what, x.look(what), -1);
         }
-        days(x, 5);
+        Houses.days(x, 5);
         check.due("new on the tenth day", x.look(8), 7);
         x.day();
         check.due("new on the eleventh day", x.look(8), 4);
-        days(x, 3);
+        Houses.days(x, 3);
         check.due("the later one on its tenth day", x.look(8), 4);
         x.day();
         check.due("none is new", x.look(8), 0);
@@ -346,10 +326,10 @@ public final class PromisesTest {
 
     // Promise 11
     private static void of() {
-        BasketHouse x = house(0, 1, 2);
-        baskets(x, 6, 5);
-        days(x, 2);
-        baskets(x, 4, 2);
+        BasketHouse x = Houses.with(0, 1, 2);
+        Houses.baskets(x, 6, 5);
+        Houses.days(x, 2);
+        Houses.baskets(x, 4, 2);
         check.due("person", x.of(0, 0), 6);
         check.due("day", x.of(0, 1), 0);
         check.due("set", x.of(0, 2), 5);
@@ -366,9 +346,9 @@ public final class PromisesTest {
 
     // Promise 12
     private static void count() {
-        BasketHouse x = house(0, 1, 2);
-        baskets(x, 0, 3, 3, 1);
-        baskets(x, 1, 3, 2, 5);
+        BasketHouse x = Houses.with(0, 1, 2);
+        Houses.baskets(x, 0, 3, 3, 1);
+        Houses.baskets(x, 1, 3, 2, 5);
         check.due("both 0 1", x.count(0, 1, 0), 3);
         check.due("both 1 0", x.count(1, 0, 0), 3);
         check.due("people 0 1", x.count(0, 1, 1), 2);
@@ -391,14 +371,14 @@ public final class PromisesTest {
 
     // Promise 13
     private static void kin() {
-        BasketHouse x = house(0, 1, 2, 3);
-        baskets(x, 0, 3, 3, 1, 4);
-        baskets(x, 1, 3, 2, 4);
+        BasketHouse x = Houses.with(0, 1, 2, 3);
+        Houses.baskets(x, 0, 3, 3, 1, 4);
+        Houses.baskets(x, 1, 3, 2, 4);
         check.due("1000 * 3 * 7 / (4 * 4) - 1000", x.kin(0, 1), 312);
         check.due("turned", x.kin(1, 0), 312);
         check.due("never together", x.kin(0, 2), 0);
         check.due("one is in no basket", x.kin(0, 3), 0);
-        baskets(x, 2, 1, 1, 1, 1, 2, 2, 2, 2, 2);
+        Houses.baskets(x, 2, 1, 1, 1, 1, 2, 2, 2, 2, 2);
         check.due("1000 * 3 * 16 / (8 * 9) - 1000", x.kin(0, 1), -334);
         check.due("the same", x.kin(2, 2), NO_NUMBER);
         for (int none : new int[] {-1, 4, 12, LEAST, GREATEST}) {
@@ -408,24 +388,24 @@ public final class PromisesTest {
     }
 
     private static void kinOfSmallGroups() {
-        BasketHouse x = house(0, 1, 2);
-        baskets(x, 0, 3, 3, 3, 4);
+        BasketHouse x = Houses.with(0, 1, 2);
+        Houses.baskets(x, 0, 3, 3, 3, 4);
         check.due("one person only", x.kin(0, 1), 0);
         x.set(0, 1);
         check.due("one is enough", x.kin(0, 1), 333);
         x.set(0, 4);
-        baskets(x, 1, 3);
-        baskets(x, 2, 3);
+        Houses.baskets(x, 1, 3);
+        Houses.baskets(x, 2, 3);
         check.due("three are too few", x.kin(0, 1), 0);
-        baskets(x, 3, 3);
+        Houses.baskets(x, 3, 3);
         check.due("four are enough", x.kin(0, 1), 166);
     }
 
     // Promise 14
     private static void near() {
-        BasketHouse x = house(0, 1, 2, 3, 0);
+        BasketHouse x = Houses.with(0, 1, 2, 3, 0);
         x.set(0, 1);
-        baskets(x, 0, 1 + 8, 1 + 2, 2, 2, 2, 2);
+        Houses.baskets(x, 0, 1 + 8, 1 + 2, 2, 2, 2, 2);
         // Kin to 0: of 1 it is -400, of 2 and 4 it is 0, of 3 it is 2000.
         check.due("kin 0 1", x.kin(0, 1), -400);
         check.due("kin 0 3", x.kin(0, 3), 2000);
@@ -440,13 +420,13 @@ public final class PromisesTest {
             check.due("near 0 " + none, x.near(0, none), -1);
             check.due("near " + none + " 0", x.near(none, 0), -1);
         }
-        check.due("near of the only thing", house(0).near(0, 0), -1);
+        check.due("near of the only thing", Houses.with(0).near(0, 0), -1);
     }
 
     private static void nearThingZero() {
-        BasketHouse x = house(0, 1, 2);
+        BasketHouse x = Houses.with(0, 1, 2);
         x.set(0, 1);
-        baskets(x, 0, 1 + 4, 1, 1, 4);
+        Houses.baskets(x, 0, 1 + 4, 1, 1, 4);
         check.due("kin 2 0", x.kin(2, 0), -334);
         check.due("0 is not the nearest", x.near(2, 0), 1);
         check.due("0 is the last", x.near(2, 1), 0);
@@ -454,9 +434,9 @@ public final class PromisesTest {
 
     // Promise 15
     private static void taken() {
-        BasketHouse x = house(0, 1, 2, 3);
-        baskets(x, 0, 1, 4, 5);
-        baskets(x, 7, 8);
+        BasketHouse x = Houses.with(0, 1, 2, 3);
+        Houses.baskets(x, 0, 1, 4, 5);
+        Houses.baskets(x, 7, 8);
         check.due("taken by 0", x.taken(0), 5);
         check.due("taken by 7", x.taken(7), 8);
         check.due("taken by 1", x.taken(1), 0);
@@ -467,10 +447,10 @@ public final class PromisesTest {
 
     // Promise 16
     private static void score() {
-        BasketHouse x = house(0, 1, 2, 3);
+        BasketHouse x = Houses.with(0, 1, 2, 3);
         x.set(0, 1);
-        baskets(x, 0, 1 + 2);
-        baskets(x, 1, 1 + 4, 2 + 4, 2 + 4, 8);
+        Houses.baskets(x, 0, 1 + 2);
+        Houses.baskets(x, 1, 1 + 4, 2 + 4, 2 + 4, 8);
         check.due("kin 2 0", x.kin(2, 0), -167);
         check.due("kin 2 1", x.kin(2, 1), 111);
         check.due("sum", x.score(0, 2), -56);
@@ -487,11 +467,11 @@ public final class PromisesTest {
 
     // Promise 17
     private static void may() {
-        BasketHouse x = house(0, 1, 2, 3);
+        BasketHouse x = Houses.with(0, 1, 2, 3);
         check.due("all", x.may(0), 15);
         x.stock(1, false);
         check.due("not what is out of stock", x.may(0), 13);
-        baskets(x, 0, 4);
+        Houses.baskets(x, 0, 4);
         check.due("not what is taken", x.may(0), 9);
         x.set(3, 1);
         check.due("show", x.show(0, 1), 1);
@@ -499,7 +479,7 @@ public final class PromisesTest {
         check.due("of another", x.may(1), 13);
         x.drop(0);
         check.due("what was taken back", x.may(0), 12);
-        days(x, 7);
+        Houses.days(x, 7);
         check.due("what is tired no more", x.may(0), 13);
         for (int p : NO_PERSONS) {
             check.due("may of person " + p, x.may(p), -1);
@@ -508,10 +488,10 @@ public final class PromisesTest {
 
     // Promise 18
     private static void listBySizeSumAndNumber() {
-        BasketHouse x = house(0, 1, 2, 3, 0);
+        BasketHouse x = Houses.with(0, 1, 2, 3, 0);
         x.set(0, 1);
-        baskets(x, 0, 1);
-        baskets(x, 1, 1 + 16, 1 + 2, 2, 2, 2, 2);
+        Houses.baskets(x, 0, 1);
+        Houses.baskets(x, 1, 1 + 16, 1 + 2, 2, 2, 2, 2);
         // Scores for person 0: of 1 it is -534, of 2 and 3 it is 0, of 4 it is 1333.
         check.due("score 1", x.score(0, 1), -534);
         check.due("score 4", x.score(0, 4), 1333);
@@ -529,17 +509,17 @@ public final class PromisesTest {
         x.stock(1, false);
         check.due("an empty list", x.list(0, 5, 0), 0);
         check.due("an empty sum", x.list(0, 5, 1), 0);
-        BasketHouse y = house(0, 1, 2, 3, 0, 1, 2, 3, 0, 1, 2, 3);
+        BasketHouse y = Houses.with(0, 1, 2, 3, 0, 1, 2, 3, 0, 1, 2, 3);
         check.due("at most five", y.list(0, 5, 0), 31);
         check.due("showings are not counted by list", y.shown(0, -1, 2), 0);
         check.due("shown is not counted by list", y.shown(0, 0, 0), 0);
     }
 
     private static void listOfThingZero() {
-        BasketHouse x = house(0, 1, 2);
+        BasketHouse x = Houses.with(0, 1, 2);
         x.set(0, 1);
-        baskets(x, 0, 4);
-        baskets(x, 1, 1 + 4, 1, 1);
+        Houses.baskets(x, 0, 4);
+        Houses.baskets(x, 1, 1 + 4, 1, 1);
         check.due("score 0", x.score(0, 0), -334);
         check.due("0 is below 1", x.list(0, 1, 0), 2);
         check.due("both", x.list(0, 2, 0), 3);
@@ -547,7 +527,7 @@ public final class PromisesTest {
     }
 
     private static void listKeepsRules() {
-        BasketHouse x = house(0, 0, 0, 0, 0, 1);
+        BasketHouse x = Houses.with(0, 0, 0, 0, 0, 1);
         check.due("two of a sort at first", x.list(0, 5, 0), 3 + 32);
         x.set(1, 1);
         check.due("one of a sort", x.list(0, 5, 0), 1 + 32);
@@ -560,10 +540,10 @@ public final class PromisesTest {
         }
         check.due("the most things come first", x.list(0, 5, 0), 62);
         check.due("of one the least", x.list(0, 1, 0), 1);
-        BasketHouse y = house(0, 1, 2);
+        BasketHouse y = Houses.with(0, 1, 2);
         y.set(0, 1);
-        baskets(y, 0, 1);
-        baskets(y, 1, 1 + 4, 2, 2);
+        Houses.baskets(y, 0, 1);
+        Houses.baskets(y, 1, 1 + 4, 2, 2);
         y.apart(1, 2, true);
         check.due("of two apart the better", y.list(0, 2, 0), 4);
         y.apart(1, 2, false);
@@ -571,8 +551,8 @@ public final class PromisesTest {
     }
 
     private static void listWithShareOfNew() {
-        BasketHouse x = house(0, 1, 2);
-        days(x, 10);
+        BasketHouse x = Houses.with(0, 1, 2);
+        Houses.days(x, 10);
         x.thing(3);
         check.due("first showing", x.show(0, 1), 1);
         check.due("second showing", x.show(0, 2), 3);
@@ -586,7 +566,7 @@ public final class PromisesTest {
         x.stock(3, false);
         check.due("the new one is out of stock", x.list(0, 3, 0), 7);
         x.stock(3, true);
-        baskets(x, 0, 8);
+        Houses.baskets(x, 0, 8);
         check.due("the new one is taken", x.list(0, 3, 0), 7);
         x.drop(0);
         check.due("it is not, again", x.show(0, 1), 8);
@@ -597,14 +577,14 @@ public final class PromisesTest {
         check.due("two goes into the fourth", x.list(0, 1, 0), 8);
         x.set(2, 1);
         check.due("one goes into all", x.list(1, 1, 0), 8);
-        days(x, 9);
+        Houses.days(x, 9);
         check.due("the new one on its tenth day", x.list(1, 1, 0), 8);
         x.day();
         check.due("it is new no more", x.list(1, 1, 0), 1);
     }
 
     private static void listOfWrongInputs() {
-        BasketHouse x = house(0, 1);
+        BasketHouse x = Houses.with(0, 1);
         for (int p : NO_PERSONS) {
             check.due("list of person " + p, x.list(p, 1, 0), NO_NUMBER);
         }
@@ -618,7 +598,7 @@ public final class PromisesTest {
 
     // Promise 19
     private static void show() {
-        BasketHouse x = house(0, 1);
+        BasketHouse x = Houses.with(0, 1);
         check.due("show", x.show(0, 1), 1);
         check.due("shown", x.shown(0, 0, 0), 1);
         check.due("not shown", x.shown(0, 1, 0), 0);
@@ -642,7 +622,7 @@ public final class PromisesTest {
 
     // Promise 20
     private static void shown() {
-        BasketHouse x = house(0, 1);
+        BasketHouse x = Houses.with(0, 1);
         x.set(2, 9);
         x.show(0, 1);
         x.show(0, 1);
@@ -679,7 +659,7 @@ public final class PromisesTest {
     }
 
     private static void shownAndLimit() {
-        BasketHouse x = house(0, 1);
+        BasketHouse x = Houses.with(0, 1);
         x.set(2, 9);
         x.show(0, 2);
         x.show(0, 2);
@@ -702,20 +682,20 @@ public final class PromisesTest {
     }
 
     private static void shownAndBaskets() {
-        BasketHouse x = house(0, 1, 2);
+        BasketHouse x = Houses.with(0, 1, 2);
         x.set(2, 9);
         x.set(3, 2);
         x.show(0, 2);
         x.show(1, 2);
         x.show(0, 1);
         check.due("tired", x.shown(0, 0, 1), 7);
-        baskets(x, 0, 3);
+        Houses.baskets(x, 0, 3);
         check.due("tired no more", x.shown(0, 0, 1), 0);
         check.due("shown anew", x.shown(0, 1, 0), 0);
         check.due("shown to another", x.shown(1, 1, 0), 1);
         check.due("showings stay", x.shown(0, -1, 2), 2);
         x.show(0, 1);
-        baskets(x, 0, 1);
+        Houses.baskets(x, 0, 1);
         check.due("a thing outside of the basket", x.shown(0, 2, 0), 1);
         x.drop(0);
         check.due("taken back, and not tired", x.may(0), 6);
@@ -724,10 +704,10 @@ public final class PromisesTest {
 
     // Promise 21
     private static void why() {
-        BasketHouse x = house(0, 1, 2, 3);
+        BasketHouse x = Houses.with(0, 1, 2, 3);
         x.set(0, 1);
-        baskets(x, 0, 1 + 2);
-        baskets(x, 1, 1 + 4, 2 + 4, 2 + 4, 8);
+        Houses.baskets(x, 0, 1 + 2);
+        Houses.baskets(x, 1, 1 + 4, 2 + 4, 2 + 4, 8);
         check.due("its number", x.why(0, 2, 0), 1);
         check.due("kin", x.why(0, 2, 1), 111);
         check.due("both", x.why(0, 2, 2), 2);
@@ -736,7 +716,7 @@ public final class PromisesTest {
         check.due("both of several", x.why(0, 3, 2), 0);
         check.due("of a taken one the other", x.why(0, 0, 0), 1);
         check.due("kin of a taken one", x.why(0, 0, 1), x.kin(0, 1));
-        baskets(x, 3, 8);
+        Houses.baskets(x, 3, 8);
         check.due("only the thing itself is taken", x.why(3, 3, 0), NO_NUMBER);
         check.due("another thing for the same person", x.why(3, 0, 0), 3);
         for (int what = 0; what < 3; what++) {
@@ -751,10 +731,10 @@ public final class PromisesTest {
         for (int what : new int[] {-1, 3, LEAST, GREATEST}) {
             check.due("why, what " + what, x.why(0, 2, what), NO_NUMBER);
         }
-        BasketHouse y = house(0, 1, 2);
+        BasketHouse y = Houses.with(0, 1, 2);
         y.set(0, 1);
-        baskets(y, 0, 1 + 2);
-        baskets(y, 1, 1, 1, 2);
+        Houses.baskets(y, 0, 1 + 2);
+        Houses.baskets(y, 1, 1, 1, 2);
         check.due("the only kin, below chance", y.why(0, 1, 1), -334);
         check.due("its number", y.why(0, 1, 0), 0);
     }
