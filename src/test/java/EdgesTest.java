@@ -223,7 +223,9 @@ public final class EdgesTest {
 
     private static void setWhatIsNone() {
         check.about("Promise 4: false, and nothing is done, if one can't be (the what)");
-        refused("set", Houses.outside(0, 3), 0, (x, what) -> told(x.set(what, 2)));
+        // Two numbers: whatever a setting is in the busy house, one of them is another.
+        refused("set to 1", Houses.outside(0, 3), 0, (x, what) -> told(x.set(what, 1)));
+        refused("set to 2", Houses.outside(0, 3), 0, (x, what) -> told(x.set(what, 2)));
     }
 
     private static void setWhatCannotBe() {
