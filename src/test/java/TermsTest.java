@@ -49,6 +49,7 @@ public final class TermsTest {
     private static void kinAndScores() {
         kinIsDividedDownwards();
         kinAtItsEnds();
+        kinThatLooksLikeNone();
         kinOfFewerThanGroup();
         kinOfOneInNoBasket();
         groupOneToFour();
@@ -445,6 +446,26 @@ public final class TermsTest {
         BasketHouse full = Houses.with(0, 1);
         Houses.fill(full, 3);
         check.due("3600000 / 3600", full.kin(0, 1), 0);
+    }
+
+    /** 34 baskets of both, 5 and 7 of one alone, 1 of neither: just below chance. */
+    private static void kinThatLooksLikeNone() {
+        check.about("divided downwards, less 1000 (-1 is a KIN, too)");
+        BasketHouse x = Houses.with(0, 1, 2);
+        x.set(0, 1);
+        for (int n = 0; n < 47; n++) {
+            x.basket(1, n < 34 ? 3 : n < 39 ? 1 : n < 46 ? 2 : 4);
+        }
+        check.due("34000 * 47 / (39 * 41) = 999.4", x.kin(0, 1), -1);
+        check.due("near: one without kin before it", x.near(0, 0), 2);
+        check.due("near: it", x.near(0, 1), 1);
+        // One of the baskets is now another person's: the counts stay as they were.
+        x.drop(38);
+        x.basket(0, 1);
+        check.due("a score of -1", x.score(0, 1), -1);
+        check.due("a list's sum of -1", x.list(0, 2, 1), -1);
+        check.due("why -1", x.why(0, 1, 1), -1);
+        check.due("why, both", x.why(0, 1, 2), 34);
     }
 
     private static void kinOfFewerThanGroup() {
